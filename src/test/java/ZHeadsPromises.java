@@ -356,6 +356,12 @@ public final class ZHeadsPromises {
             }
             judged(v, 8, 65535, 9, 8);
         }
+        int[] low = story(4);
+        two(low, 8, 64);
+        low[64] = 0;
+        low[65] = 6;
+        two(low, 66, 3);
+        judged(low, "words just behind the head", 0, 0);
         int[] row = story(3);
         two(row, 8, 596);
         row[596] = 0;
@@ -422,6 +428,10 @@ public final class ZHeadsPromises {
             judged(row, "version " + v + " ends at the last byte", 0, 0);
             two(row, 26, 592 / scale(v));
             judged(row, "version " + v + " ends behind THE LENGTH", 13, 46);
+            row[592] = 0;
+            judged(row, "version " + v + " ends at THE LENGTH", 13, 46);
+            row[591] = 0;
+            judged(row, "version " + v + " ends just ahead of THE LENGTH", 0, 0);
             moreRules(v);
         }
     }
@@ -435,6 +445,9 @@ public final class ZHeadsPromises {
         judged(row, "version " + v + " one word too many", 14, 54);
         two(row, 594, 65535);
         judged(row, "version " + v + " far too many words", 14, 54);
+        two(row, 54, 595);
+        two(row, 595, 2);
+        judged(row, "version " + v + " words that end one byte too far", 14, 54);
         two(row, 54, 598);
         two(row, 598, 0);
         judged(row, "version " + v + " no words at the end", 0, 0);
@@ -481,6 +494,27 @@ public final class ZHeadsPromises {
         due(8, "rule() after poke(): of the latest read()", x.rule(), 5);
         due(7, "read() mended", x.read(), 5);
         due(8, "rule() mended", x.rule(), 0);
+    }
+
+    /** What a longer file left behind its end is not there for a shorter one. */
+    private static void bytesLeftBehind() {
+        ZHeads x = readOf(3);
+        x.clear();
+        int[] row = cut(story(3), 568);
+        two(row, 26, 0);
+        row[552] = 0;
+        row[553] = 4;
+        two(row, 554, 3);
+        for (int b : row) {
+            x.octet(b);
+        }
+        due(7, "read() of the shorter file", x.read(), 3);
+        due(9, "field(1)", x.field(1), 568);
+        due(12, "load(567)", answer(() -> x.load(567)), row[567]);
+        due(12, "load(568)", answer(() -> x.load(568)), AIOOBE);
+        due(15, "first(283, true)", answer(() -> x.first(283, true)), row[566]);
+        due(15, "first(284, true)", answer(() -> x.first(284, true)), AIOOBE);
+        due(5, "poke(568, 0)", x.poke(568, 0), ZHeads.OUTSIDE);
     }
 
     private static void readAgain() {
@@ -745,8 +779,9 @@ public final class ZHeadsPromises {
     private static void flagOnce(int v, int was, int word, int bit, boolean on, boolean story) {
         int[] row = story(v);
         int all = was == 1 ? 65535 : 0;
-        row[1] = all & 255;
-        two(row, 16, all);
+        int other = 65535 - all;
+        row[1] = (word == 1 ? all : other) & 255;
+        two(row, 16, word == 2 ? all : other);
         ZHeads x = of(row);
         x.read();
         String call = "version " + v + ", was " + was + ": (" + word + ", " + bit + ", " + on + ", " + story + ")";
@@ -756,9 +791,9 @@ public final class ZHeadsPromises {
         int now = may ? (on ? 1 : 0) : was;
         due(19, "isOn after " + call, x.isOn(word, bit), now);
         int bits = now == was ? all : all ^ (1 << bit);
-        due(18, "load(1) after " + call, x.load(1), word == 1 ? bits & 255 : all & 255);
-        due(18, "load(16) after " + call, x.load(16), word == 2 ? bits >> 8 : all >> 8);
-        due(18, "load(17) after " + call, x.load(17), word == 2 ? bits & 255 : all & 255);
+        due(18, "load(1) after " + call, x.load(1), (word == 1 ? bits : other) & 255);
+        due(18, "load(16) after " + call, x.load(16), (word == 2 ? bits : other) >> 8);
+        due(18, "load(17) after " + call, x.load(17), (word == 2 ? bits : other) & 255);
     }
 
     private static void sets() {
@@ -892,6 +927,7 @@ public final class ZHeadsPromises {
         lateRules();
         orderOfRules();
         rules();
+        bytesLeftBehind();
         readAgain();
         fields();
         fieldsAsRead();
