@@ -352,12 +352,8 @@ public final class ZHeadsModel {
         };
     }
 
-    /** The machine's own exceptions bear texts of its own, or none. */
     private static String thrown(RuntimeException e) {
-        String text = e.getMessage();
-        boolean machine = text == null || text.startsWith("Index ") || text.startsWith("/ by")
-            || text.startsWith("arraycopy") || text.startsWith("Cannot");
-        return machine ? "the machine's " + e : e.getClass().getSimpleName();
+        return Checks.isOfTheMachine(e) ? "the machine's " + e : e.getClass().getSimpleName();
     }
 
     private static final int[] ARGS = {-1, 0, 1, 2, 5, 6, 7, 8, 9, 10, 11, 15, 16, 17, 18, 63, 64, 239, 240, 255, 256,
@@ -373,8 +369,7 @@ public final class ZHeadsModel {
     }
 
     private static void two(int[] row, int place, int v) {
-        row[place] = v >> 8 & 255;
-        row[place + 1] = v & 255;
+        Stories.two(row, place, v);
     }
 
     private static int[] story(Random r) {
@@ -421,10 +416,9 @@ public final class ZHeadsModel {
             Random r = new Random(run);
             ZHeads x = new ZHeads();
             Model model = new Model();
-            for (int b : run % 20 == 0 ? new int[0] : story(r)) {
-                x.octet(b);
-                model.answer(2, b, 0, 0, false, false);
-            }
+            int[] row = run % 20 == 0 ? new int[0] : story(r);
+            Stories.put(x, row);
+            model.come(row);
             for (int k = 0; k < CALLS && wrong < 20; k++) {
                 int call = k == 0 ? 7 : r.nextInt(60) == 0 ? 2 + r.nextInt(6) : 7 + r.nextInt(18);
                 call = call == 6 && r.nextInt(4) > 0 ? 5 : call;

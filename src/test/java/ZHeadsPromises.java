@@ -2,8 +2,8 @@ import java.util.function.IntSupplier;
 
 /** Each promise of the document by itself: ordinary inputs, the edges it names, wrong inputs. */
 public final class ZHeadsPromises {
-    private static final int AIOOBE = 1_000_001;
-    private static final int ARITHMETIC = 1_000_002;
+    private static final int AIOOBE = Checks.INDEX;
+    private static final int ARITHMETIC = Checks.ARITHMETIC;
     private static int wrong = 0;
     private static int checks = 0;
 
@@ -15,24 +15,16 @@ public final class ZHeadsPromises {
         }
     }
 
-    /** The answer, or a number that stands for the exception. */
     private static int answer(IntSupplier call) {
-        try {
-            return call.getAsInt();
-        } catch (ArrayIndexOutOfBoundsException e) {
-            return AIOOBE;
-        } catch (ArithmeticException e) {
-            return ARITHMETIC;
-        }
+        return Checks.answer(call);
     }
 
     private static void two(int[] row, int place, int v) {
-        row[place] = v >> 8;
-        row[place + 1] = v & 255;
+        Stories.two(row, place, v);
     }
 
     private static int scale(int version) {
-        return version <= 3 ? 2 : version <= 5 ? 4 : 8;
+        return Stories.scale(version);
     }
 
     /** A sound story of 600 bytes in which every table that its version has is told. */
@@ -74,11 +66,7 @@ public final class ZHeadsPromises {
     }
 
     private static ZHeads of(int[] row) {
-        ZHeads x = new ZHeads();
-        for (int b : row) {
-            x.octet(b);
-        }
-        return x;
+        return Stories.made(row);
     }
 
     private static ZHeads readOf(int version) {
@@ -505,9 +493,7 @@ public final class ZHeadsPromises {
         row[552] = 0;
         row[553] = 4;
         two(row, 554, 3);
-        for (int b : row) {
-            x.octet(b);
-        }
+        Stories.put(x, row);
         due(7, "read() of the shorter file", x.read(), 3);
         due(9, "field(1)", x.field(1), 568);
         due(12, "load(567)", answer(() -> x.load(567)), row[567]);
