@@ -629,6 +629,36 @@ public final class ZHeadsBounds {
         due("flag(2, 0, false, false)", x.flag(2, 0, false, false), 1);
     }
 
+    /** All that THE PLAYER may change in version 6, one after the other: each keeps what the ones ahead of it did. */
+    private static void flagsTogether() {
+        Checks.says(18, "A FLAG is on, or off: what it was (1, 0), and the other FLAGS stay");
+        int[] row = with(Stories.least(6), 16, 0xFFFC);
+        row[1] = 0x40;
+        ZHeads x = Stories.read(row);
+        int first = 0x40;
+        for (int bit : new int[] {0, 1, 2, 3, 4, 5, 7}) {
+            due("flag(1, " + bit + ", true, false)", x.flag(1, bit, true, false), 0);
+            first |= 1 << bit;
+            due("load(1)", Checks.answer(() -> x.load(1)), first);
+        }
+        for (int bit : new int[] {7, 5, 4, 3, 2, 1, 0}) {
+            due("flag(1, " + bit + ", false, false)", x.flag(1, bit, false, false), 1);
+            first -= 1 << bit;
+            due("load(1)", Checks.answer(() -> x.load(1)), first);
+        }
+        int second = 0xFFFC;
+        for (int bit = 2; bit <= 8; bit++) {
+            due("flag(2, " + bit + ", false, false)", x.flag(2, bit, false, false), 1);
+            second -= 1 << bit;
+            due("load(16)", Checks.answer(() -> x.load(16)), second >> 8);
+            due("load(17)", Checks.answer(() -> x.load(17)), second & 255);
+        }
+        due("flag(2, 0, true, true)", x.flag(2, 0, true, true), 0);
+        due("flag(2, 1, true, true)", x.flag(2, 1, true, true), 0);
+        due("load(16) at last", Checks.answer(() -> x.load(16)), 0xFE);
+        due("load(17) at last", Checks.answer(() -> x.load(17)), 3);
+    }
+
     private static final int[] SET_AT = {30, 31, 32, 33, 34, 36, 39, 38, 44, 45, 50};
 
     private static boolean isWide(int what) {
@@ -818,6 +848,7 @@ public final class ZHeadsBounds {
         sums();
         flagNumbers();
         flagRights();
+        flagsTogether();
         sets();
         restarts();
         signs();
